@@ -10,7 +10,7 @@ public final class ClassesTest {
         newClassRefuses();
         belowOfFirstKinds();
         belowOfClasses();
-        belowOfDeepChain();
+        belowAndMeetOfDeepChain();
         belowOfStrangeKinds();
         meetOfFirstKinds();
         meetOfClasses();
@@ -104,20 +104,26 @@ public final class ClassesTest {
         }
     }
 
-    private static void belowOfDeepChain() {
-        KindTable x = new KindTable();
-        x.newClass(19);
-        for (int k = 21; k < 32; k++) {
-            DUE.same("chain: newClass", x.newClass(k - 1), k);
-        }
+    private static void belowAndMeetOfDeepChain() {
         for (int a = 20; a < 32; a++) {
+            KindTable x = chain();
             for (int b = 7; b < 32; b++) {
                 boolean want = b == 7 || b >= 19 && b <= a;
                 DUE.same("chain: below(" + a + ", " + b + ")", x.below(a, b), want);
-                int least = b == 7 ? 7 : b >= 19 ? Math.min(a, b) : 7;
+                int least = b >= 19 ? Math.min(a, b) : 7;
                 DUE.same("chain: meet(" + a + ", " + b + ")", x.meet(a, b), least);
             }
         }
+    }
+
+    /** 20 under E, and each other CLASS under the one ahead of it. */
+    private static KindTable chain() {
+        KindTable x = new KindTable();
+        x.newClass(19);
+        for (int k = 21; k < 32; k++) {
+            DUE.same("chain: newClass(" + (k - 1) + ")", x.newClass(k - 1), k);
+        }
+        return x;
     }
 
     private static void belowOfStrangeKinds() {
@@ -132,7 +138,16 @@ public final class ClassesTest {
     }
 
     private static void meetOfFirstKinds() {
-        KindTable x = new KindTable();
+        for (int classes = 0; classes <= 12; classes++) {
+            KindTable x = new KindTable();
+            for (int i = 0; i < classes; i++) {
+                x.newClass(19);
+            }
+            meetOfFirstKinds(x);
+        }
+    }
+
+    private static void meetOfFirstKinds(KindTable x) {
         for (int a = 0; a < 20; a++) {
             for (int b = 0; b < 20; b++) {
                 boolean numbers = isNumber(a) && isNumber(b);

@@ -1,4 +1,4 @@
-/** Promises 5 to 8: may, pass, kind, number. */
+/** Promises 5 to 8: may, pass, kind, number. No table is used for more than its 512 calls. */
 public final class PassingTest {
     private static final Due DUE = new Due();
     private static final int[] STRANGE = {-1, -2, 22, 31, 32, 33, 64, Integer.MIN_VALUE, Integer.MAX_VALUE};
@@ -51,8 +51,8 @@ public final class PassingTest {
     }
 
     private static void mayTable() {
-        KindTable x = table();
         for (int a = 0; a < 22; a++) {
+            KindTable x = table();
             for (int b = 0; b < 22; b++) {
                 char c = MAY[a].charAt(b);
                 String call = "may(" + a + ", " + b;
@@ -80,8 +80,8 @@ public final class PassingTest {
     }
 
     private static void passRefusesWhatMayNot() {
-        KindTable x = table();
         for (int a = 0; a < 22; a++) {
+            KindTable x = table();
             for (int b = 0; b < 22; b++) {
                 char c = MAY[a].charAt(b);
                 if (c != 'y') {
@@ -90,6 +90,7 @@ public final class PassingTest {
                 }
             }
         }
+        KindTable x = table();
         for (int k : STRANGE) {
             passes(x, k, 7, false, 0, 0, -1);
             passes(x, 7, k, true, 0, 0, -1);
@@ -98,8 +99,8 @@ public final class PassingTest {
     }
 
     private static void plainBounds() {
-        KindTable x = table();
         for (int k = 1; k <= 6; k++) {
+            KindTable x = table();
             passes(x, k, k, false, 0, LOWEST[k], 0, 0, LOWEST[k]);
             passes(x, k, k, true, 0, HIGHEST[k], 0, 0, HIGHEST[k]);
             passes(x, k + 8, 7, false, k + 8, LOWEST[k], 0, k + 8, LOWEST[k]);
@@ -159,8 +160,8 @@ public final class PassingTest {
     }
 
     private static void boxing() {
-        KindTable x = table();
         for (int a = 1; a <= 6; a++) {
+            KindTable x = table();
             for (int b = 7; b < 22; b++) {
                 for (boolean forced : new boolean[] {false, true}) {
                     if (MAY[a].charAt(b) == 'y') {
@@ -174,8 +175,8 @@ public final class PassingTest {
     }
 
     private static void referenceToReference() {
-        KindTable x = table();
         for (int b = 7; b < 22; b++) {
+            KindTable x = table();
             for (int kind = 9; kind < 22; kind++) {
                 for (boolean forced : new boolean[] {false, true}) {
                     boolean number = kind == 10 || kind == 11 || kind == 13 || kind == 14;
@@ -201,8 +202,8 @@ public final class PassingTest {
     }
 
     private static void noValueOfA() {
-        KindTable x = table();
         for (int a = 7; a < 22; a++) {
+            KindTable x = table();
             for (int kind = 1; kind <= 8; kind++) {
                 passes(x, a, 7, false, kind, 1, -1);
                 passes(x, a, a, true, kind, 1, -1);
@@ -211,6 +212,7 @@ public final class PassingTest {
                 passes(x, a, 7, false, kind, 1, -1);
             }
         }
+        KindTable x = table();
         for (int[] r : new int[][] {{8, 9}, {8, 12}, {8, 15}, {8, 20}, {13, 14}, {14, 13}, {15, 16}, {18, 19},
                 {19, 20}, {20, 21}, {21, 19}, {21, 20}, {9, 10}}) {
             passes(x, r[0], 7, false, r[1], 1, -1);
@@ -224,8 +226,8 @@ public final class PassingTest {
     }
 
     private static void unboxing() {
-        KindTable x = table();
         for (int b = 1; b <= 6; b++) {
+            KindTable x = table();
             for (int box = 9; box <= 14; box++) {
                 boolean may = MAY[box - 8].charAt(b) == 'y';
                 if (may) {
@@ -241,6 +243,7 @@ public final class PassingTest {
                 passes(x, kind, b, false, kind, 1, -1);
             }
         }
+        KindTable x = table();
         passes(x, 8, 2, false, 10, -7, 0, 0, -7);
         passes(x, 8, 2, false, 14, -7, 2);
         passes(x, 8, 6, false, 13, -7, 0, 0, -7);
@@ -248,8 +251,8 @@ public final class PassingTest {
     }
 
     private static void forcedUnboxing() {
-        KindTable x = table();
         for (int b = 1; b <= 6; b++) {
+            KindTable x = table();
             for (int box = 9; box <= 14; box++) {
                 passes(x, 7, b, true, box, 1, 0, 0, 1);
                 passes(x, box, b, true, box, 1, 0, 0, 1);
@@ -260,13 +263,14 @@ public final class PassingTest {
                 passes(x, kind, b, true, 0, 1, -1);
             }
         }
+        KindTable x = table();
         passes(x, 8, 1, true, 13, -1, 0, 0, 1);
         passes(x, 8, 4, true, 14, -1, 0, 0, 65535);
     }
 
     private static void nulls() {
-        KindTable x = table();
         for (int a = 7; a < 22; a++) {
+            KindTable x = table();
             for (int b = 7; b < 22; b++) {
                 passes(x, a, b, false, 0, 9, 0, 0, 0);
                 passes(x, a, b, true, 0, Long.MIN_VALUE, 0, 0, 0);
