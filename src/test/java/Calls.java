@@ -76,8 +76,17 @@ final class Calls {
         latest("after " + call);
     }
 
+    /** What came of the latest pass() that was 0. */
     void latest(String when) {
+        kind(when);
+        number(when);
+    }
+
+    void kind(String when) {
         due.same(told("kind") + " " + when, table.kind(), kindDue);
+    }
+
+    void number(String when) {
         due.same(told("number") + " " + when, table.number(), numberDue);
     }
 

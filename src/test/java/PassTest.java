@@ -42,9 +42,10 @@ public final class PassTest {
         latestThatWasZero();
         kindOfNullAndPlain();
         kindOfObject();
-        nothingBefore();
+        kindBefore();
         numberAsTold();
         numberOfNull();
+        numberBefore();
         DUE.end();
     }
 
@@ -505,10 +506,15 @@ public final class PassTest {
         x.gives(20, 25, false, 31, 1, 31, 1);
     }
 
-    private static void nothingBefore() {
-        DUE.sentence("Promises 7 and 8", "or before");
+    private static void kindBefore() {
+        DUE.sentence("Promise 7", "0 for NULL and PLAIN ones, or before");
         Calls x = MayTable.calls(DUE);
-        x.latest("before any pass()");
+        x.kind("before any pass()");
+        passesNone(x);
+        x.kind("before any pass() that was 0");
+    }
+
+    private static void passesNone(Calls x) {
         x.stays(5, 2, false, 13, 4, NONE);
         x.stays(13, 2, true, 14, 4, NONE);
         x.stays(7, 5, false, 0, 4, NULL_ERROR);
@@ -543,5 +549,13 @@ public final class PassTest {
         }
         x.gives(6, 6, false, 0, -8, 0, -8);
         x.gives(7, 6, true, 0, 7, 0, 0);
+    }
+
+    private static void numberBefore() {
+        DUE.sentence("Promise 8", "0 for NULL, or before");
+        Calls x = MayTable.calls(DUE);
+        x.number("before any pass()");
+        passesNone(x);
+        x.number("before any pass() that was 0");
     }
 }
