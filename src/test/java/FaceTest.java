@@ -7,7 +7,7 @@ import java.util.HashSet;
 import java.util.Set;
 import java.util.TreeSet;
 
-/** The public face is the document's and no more, and no call throws, whatever it is told. */
+/** The public face is the document's and no more, no call throws, and what reflection sees of LANGUAGE.md holds. */
 public final class FaceTest {
     private static final Due DUE = new Due();
     private static final String FACE = String.join("\n", new TreeSet<>(Set.of(
@@ -31,6 +31,8 @@ public final class FaceTest {
     public static void main(String[] args) {
         face();
         privateNames();
+        staticFields();
+        fewFieldsAndParameters();
         noCallThrows(new KindTable());
         noCallThrows(fullTable());
         DUE.end();
@@ -66,6 +68,29 @@ public final class FaceTest {
         for (Method method : KindTable.class.getDeclaredMethods()) {
             boolean shared = Modifier.isPrivate(method.getModifiers()) && open.contains(method.getName());
             DUE.same("private " + method.getName() + " bears a public name", shared, false);
+        }
+    }
+
+    /** Rule 5; arrays written out in their initialiser would be fine too, but the class has none. */
+    private static void staticFields() {
+        Set<Class<?>> constants = Set.of(int.class, long.class, boolean.class, char.class, String.class);
+        for (Field field : KindTable.class.getDeclaredFields()) {
+            if (Modifier.isStatic(field.getModifiers())) {
+                boolean constant = Modifier.isFinal(field.getModifiers()) && constants.contains(field.getType());
+                DUE.same("static " + field.getName() + " is a constant", constant, true);
+            }
+        }
+    }
+
+    /** Rule 11. */
+    private static void fewFieldsAndParameters() {
+        int fields = 0;
+        for (Field field : KindTable.class.getDeclaredFields()) {
+            fields += Modifier.isStatic(field.getModifiers()) ? 0 : 1;
+        }
+        DUE.same("at most twenty fields beside constants", fields <= 20, true);
+        for (Method method : KindTable.class.getDeclaredMethods()) {
+            DUE.same(method.getName() + " has at most seven parameters", method.getParameterCount() <= 7, true);
         }
     }
 
